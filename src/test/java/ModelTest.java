@@ -175,8 +175,11 @@ public final class ModelTest {
             }
         }
         String text = spoilt(t.toString(), "0129-,;o.abclm\u00e9");
-        boolean cut = text.length() > 80 || text.length() > 76 && random.nextBoolean();
-        type(cut ? text.substring(0, random.nextInt(3) == 0 ? 80 : Math.max(0, text.lastIndexOf(';', 76))) : text);
+        if (text.length() > 80 || text.length() > 76 && random.nextBoolean()) {
+            int end = random.nextInt(3) == 0 ? Math.min(80, text.length()) : Math.max(0, text.lastIndexOf(';', 76));
+            text = text.substring(0, end);
+        }
+        type(text);
         check("town()", x::town, m::town);
     }
 
