@@ -1166,16 +1166,17 @@ public final class StreetsStepOn {
             orders = book.orders;
             int at = 0;
             int lines = 0;
-            while (at <= stop && text.size > 0) {
+            boolean more = text.size > 0;
+            while (more && lines <= MOST_SIGNS) {
                 at = line(text, book, roads, at);
                 if (at < 0) {
                     return at;
                 }
                 lines++;
-                if (text.signAt(at, stop) != ';') {
-                    break;
+                more = text.signAt(at, stop) == ';';
+                if (more) {
+                    at++;
                 }
-                at++;
             }
             if (at < text.size) {
                 return -1 - at;

@@ -364,7 +364,10 @@ public final class PromisesTest {
         Due.town(x, "oabc.defg.hijkl;o;o;o;o;o;o");
         due.is("13: the longest", x.period(), 60 * 7 - 6);
         due.row("13: the longest", x, 420);
-        due.is("13: a year on", x.name(0, 60 * 7 * 1000000L + 8), x.name(0, 8));
+        due.is("13: a has stepped twice", x.name(0, 420 * 1000000L + 8), 2);
+        due.is("13: g has stepped once", x.name(6, 420 * 1000000L + 7), 3);
+        due.is("13: h has stepped 59 times", x.name(7, 420 * 1000000L - 7), 11);
+        due.is("13: and 60 times", x.name(7, 420 * 1000000L - 6), 7);
     }
 
     private static void p14to15() {
