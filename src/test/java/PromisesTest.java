@@ -537,6 +537,9 @@ public final class PromisesTest {
         due.row("25: a cycle of 6", six, 0, 6);
         Due.town(six, "0-1,5");
         due.is("25: 7 streets", six.asks(0, 0, 0), -3);
+        StreetsStepOn four = Due.built("0-1,5;0-1,5;0-1,5;0-1,5;oabc;oad;odb;oab");
+        due.is("25: b, then a or c by what b tells", four.asks(1, 9, 23), 2);
+        due.row("25: b, then a or c by what b tells", four, 1, 4);
         x.letter(0, 4);
         due.is("26: a", x.answer(0, 0), 2);
         due.is("26: b", x.answer(0, 1), 0);
@@ -731,6 +734,11 @@ public final class PromisesTest {
         due.is("35: 6 letters", y.round(1, 126, 9), 5);
         due.row("35: the least row", y, 1, 2, 3, 4, 5, 6);
         due.is("35: 7 letters", y.round(1, 127, 9), -1);
+        for (int i = 7; i < 12; i++) {
+            y.letter(i % 2, 0);
+        }
+        due.is("35: the last letter of 12", y.round(2, 1 << 11, 9), 5);
+        due.row("35: the last letter of 12", y, 11);
         StreetsStepOn far = Due.built("0-1,20;1-2,20;2-3,20;3-4,20;4-5,20;5-6,20;0-9,20");
         far.letter(6, 0);
         due.is("35: day 99", far.round(5, 1, 2), 100);
