@@ -13,6 +13,15 @@ final class Due {
         }
     }
 
+    int checks() {
+        return checks;
+    }
+
+    void fault(String what) {
+        wrong++;
+        System.out.println(what);
+    }
+
     void is(String what, boolean got, boolean want) {
         is(what, got ? 1 : 0, want ? 1 : 0);
     }
