@@ -94,7 +94,8 @@ final class CouncilBoundaries {
     }
 
     private void p43() {
-        s.of("43", "Of all ways in which one ORDER alone, the same each midnight, could be (at most 6 STREETS; else -3) the first");
+        s.of("43", "Of all ways in which one ORDER alone, the same each midnight, could be "
+                + "(at most 6 STREETS; else -3) the first");
         StreetsStepOn six = Due.built(TermsBoundaries.streets(6));
         s.is("6 streets", six.choose(0), 720);
         s.row("6 streets", six, 0, 1, 2, 3, 4, 5);
@@ -116,6 +117,7 @@ final class CouncilBoundaries {
         StreetsStepOn empty = new StreetsStepOn();
         s.is("no streets", empty.choose(0), 1);
         s.row("no streets", empty);
+        keepsAll();
         s.of("43", "WISHES told as bits (0 .. ; those there are)");
         StreetsStepOn x = Due.built("0-1,1;0-1,1");
         s.is("no wishes", x.choose(0), 2);
@@ -126,6 +128,33 @@ final class CouncilBoundaries {
         s.is("the last", x.choose(32), 1);
         s.is("all", x.choose(63), 1);
         s.row("all", x, 1, 0);
+    }
+
+    private void choose(String what, int sort, int street, int number, int ways, long... next) {
+        StreetsStepOn x = Due.built(TermsBoundaries.streets(4));
+        x.wish(sort, street, number);
+        s.is(what, x.choose(1), ways);
+        s.row(what, x, next);
+    }
+
+    private void keepsAll() {
+        s.of("43", "(the row of NEXT of each STREET being the least) that keeps WISHES");
+        choose("d is not in a's cycle", 0, 0, 3, 12, 0, 1, 2, 3);
+        choose("a's cycle is of 1", 1, 0, 1, 6, 0, 1, 2, 3);
+        choose("a's cycle is of 3 at most", 1, 0, 3, 18, 0, 1, 2, 3);
+        choose("a's cycle is of 4 at most", 1, 0, 4, 24, 0, 1, 2, 3);
+        choose("a's cycle is not of 1", 2, 0, 1, 18, 1, 0, 2, 3);
+        choose("a's cycle is of 3 or 4", 2, 0, 2, 12, 1, 2, 0, 3);
+        choose("a's cycle is of 2 or 4", 2, 0, 3, 12, 1, 0, 2, 3);
+        choose("a's cycle is of 1, 2, 3 or 4", 2, 0, 12, 0);
+        choose("a stays not", 3, 0, 0, 18, 1, 0, 2, 3);
+        choose("a goes not to d", 3, 0, 3, 18, 0, 1, 2, 3);
+        StreetsStepOn x = Due.built(TermsBoundaries.streets(4));
+        x.wish(3, 0, 0);
+        x.wish(0, 0, 1);
+        x.wish(0, 0, 2);
+        s.is("a with d alone", x.choose(7), 2);
+        s.row("a with d alone", x, 3, 1, 2, 0);
     }
 
     private void p43Refused() {
@@ -168,6 +197,11 @@ final class CouncilBoundaries {
         x.wish(2, 0, 2);
         s.is("one is fewer, though the last", x.proof(), 1);
         s.row("one is fewer, though the last", x, 32);
+        StreetsStepOn first = Due.built("0-1,1;0-1,1");
+        first.wish(2, 0, 2);
+        first.wish(2, 1, 2);
+        s.is("the first alone", first.proof(), 1);
+        s.row("the first alone", first, 1);
         StreetsStepOn all = Due.built("0-1,1;0-1,1;0-1,1;0-1,1;0-1,1;0-1,1");
         for (int i = 0; i < 6; i++) {
             all.wish(3, 0, i);
@@ -209,6 +243,14 @@ final class CouncilBoundaries {
         StreetsStepOn six = Due.built(TermsBoundaries.streets(6) + ";o;o");
         s.is("6 streets", six.decree(0), 720);
         s.is("one order", six.count(1), 1);
+        StreetsStepOn one = Due.built("0-1,1;0-1,1");
+        one.wish(3, 0, 0);
+        s.is("in one way alone", one.decree(1), 1);
+        s.is("names by it", one.name(0, 1), 1);
+        s.is("period by it", one.period(), 2);
+        Due.town(one, "0-1,1");
+        s.is("a street told later stays by it", one.next(0, 2), 2);
+        s.is("a street told later stays by it", one.name(2, 1), 2);
         s.of("45", "0: nothing changes; NONE, -3 likewise.");
         s.leaves("NONE: -1", -1, y -> y.decree(-1));
         s.leaves("NONE: 4", -1, y -> y.decree(4));
@@ -259,6 +301,9 @@ final class CouncilBoundaries {
         StreetsStepOn worse = Due.built("0-1,1;0-1,1;o;oab");
         s.is("worse than it is", worse.soonest(), 3);
         s.row("worse than it is", worse, 0, 1, 1);
+        StreetsStepOn inner = Due.built("0-1,1;0-1,1;0-1,1;oabc;oab;oacb");
+        s.is("the last two", inner.soonest(), 2);
+        s.row("the last two", inner, 1, 2, 6);
         StreetsStepOn longest = NamesBoundaries.twelve("o;oabc.defg.hijkl;o;o;o;o;o");
         s.is("the first is left", longest.soonest(), 1);
         s.row("the first is left", longest, 0, 2, 1);

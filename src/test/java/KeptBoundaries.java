@@ -77,6 +77,31 @@ final class KeptBoundaries {
         s.is("today", full.today(), LAST);
         s.is("no room for letters", full.letter(0, 0), -1);
         s.is("no room for orders", Due.town(full, "o"), -1);
+        changedSince();
+    }
+
+    private void changedSince() {
+        StreetsStepOn x = Due.built("0-1,1;0-1,1;0-1,1");
+        x.keep(0);
+        Due.town(x, "oab;o");
+        x.letter(1, 2);
+        x.keep(1);
+        x.swap(0, 1);
+        s.is("orders as kept", x.again(1), true);
+        s.is("order 0", x.next(0, 0), 1);
+        s.is("name on day 1", x.name(0, 1), 1);
+        x.again(0);
+        s.is("no orders", x.count(1), 0);
+        s.is("names stay", x.name(0, 1), 0);
+        x.period();
+        s.row("no orders: period", x, 1);
+        x.letter(2, 4);
+        x.pass(9);
+        x.again(1);
+        s.is("the letter's home", x.home(0), 0);
+        s.row("the letter's day", x, 1, -2);
+        s.is("its name", Due.rule(x, "n"), 0);
+        s.is("its name", x.late(0, 0, 0), 1);
     }
 
     private void p49Streets() {

@@ -144,6 +144,11 @@ final class LettersBoundaries {
         s.is("day 2 by orders 5, then 6", week.misread(1, 5), 1);
         s.is("day 2 by orders 4, then 5", week.misread(1, 4), 0);
         s.is("day 0", week.misread(2, 6), 0);
+        StreetsStepOn one = Due.built("0-1,1;0-1,1;oab");
+        one.letter(0, 1);
+        one.letter(1, 1);
+        s.is("one order, any shift", one.misread(0, 6), 1);
+        s.is("one order, to a", one.misread(1, 5), 0);
         StreetsStepOn still = Due.built("0-1,1;0-1,1");
         still.letter(1, LAST);
         s.is("without orders", still.misread(0, 6), 1);
@@ -202,6 +207,8 @@ final class LettersBoundaries {
         s.row("none to ask", x, -1, 1);
         s.is("a or b", x.asks(0, 0, 1), 1);
         s.row("a or b", x, 0, 2);
+        s.is("another name on the same days", x.asks(1, 2, 3), 1);
+        s.row("another name on the same days", x, 0, 2);
         s.is("b or c: a tells nothing", x.asks(0, 1, 2), 1);
         s.row("b or c: a tells nothing", x, 1, 2);
         s.of("25", "-3: more than 6 STREETS; NONE: others.");

@@ -420,7 +420,8 @@ public final class ModelTest {
                 break;
             case 44:
                 int streets = mask(m.streets.size(), random.nextInt(6) == 0 ? 12 : 6);
-                check("walk(" + place + ", " + streets + ")", () -> x.walk(place, streets), () -> m.walk(place, streets));
+                check("walk(" + place + ", " + streets + ")", () -> x.walk(place, streets),
+                        () -> m.walk(place, streets));
                 break;
             default:
                 int some = mask(m.letters.size(), 12);

@@ -102,6 +102,7 @@ final class NamesBoundaries {
         period("as it was in the middle of the week", Due.built("0-1,1;0-1,1;oab;oab;oab"), 2, 6);
         period("12 in a cycle", twelve("oabcdefghijkl"), 12, 12);
         period("the longest", twelve("oabc.defg.hijkl;o;o;o;o;o;o"), 414, 420);
+        period("both the longest", twelve("oad;o;o;o;o;o;oabcdefg.hijkl"), 420, 420);
         period("the longest, at the end of the week", twelve("o;o;o;o;o;o;oabc.defg.hijkl"), 1, 420);
         s.of("13", "Without STREETS or ORDERS both 1.");
         period("without both", new StreetsStepOn(), 1, 1);
@@ -140,8 +141,8 @@ final class NamesBoundaries {
     }
 
     private void p15() {
-        s.of("15", "The first DAY (also behind the last one) above a DAY on which two unlike STREETS bear each other's NAME "
-                + "(the one the other's own number, and the other way round).");
+        s.of("15", "The first DAY (also behind the last one) above a DAY on which two unlike STREETS bear "
+                + "each other's NAME (the one the other's own number, and the other way round).");
         StreetsStepOn x = Due.built(Seen.TOWN);
         s.is("the next day", x.trade(0, 1, 0), 1);
         s.is("not that day itself, a whole turn", x.trade(0, 1, 1), 7);

@@ -1,7 +1,10 @@
 /** Boundaries that promises 30 to 40 name. Answers are reckoned by hand. */
 final class PostmenBoundaries {
     private static final long LAST = Sentences.LAST;
-    /** Only the first midnight of a week changes NAMES: NAME 0 is l's on DAYS 1 .. 7, k's on 8 .. 14, .., b's on 71 .. 77. */
+    /**
+     * Only the first midnight of a week changes NAMES: NAME 0 is l's on DAYS 1 .. 7, k's on
+     * 8 .. 14, .., b's on 71 .. 77.
+     */
     private static final String SLOW = "oabcdefghijkl;o;o;o;o;o;o";
     private final Sentences s;
 
@@ -167,6 +170,9 @@ final class PostmenBoundaries {
         s.of("33", "of equal ones the least: it");
         postman("0 or 6 late", homeA(LAST - 4), 1, 0, 1, 1);
         postman("none of all", noneHome(), 1, 0, 0, 0);
+        StreetsStepOn twice = homeA(0);
+        postman("once", twice, 30, 29, 30, 10);
+        postman("and once more", twice, 30, 29, 30, 10);
         s.of("33", "NONE: another n, no LETTERS.");
         s.refused("n 0", x -> x.postman(0));
         s.refused("n 31", x -> x.postman(31));
@@ -239,14 +245,16 @@ final class PostmenBoundaries {
     }
 
     private void p35() {
-        s.of("35", "a DAY has long minutes (1 .. 999), and has to come to the HOUSE of whatever STREET bears a NAME as he comes");
+        s.of("35", "a DAY has long minutes (1 .. 999), "
+                + "and has to come to the HOUSE of whatever STREET bears a NAME as he comes");
         round("1 minute: b's house on day 7", onDay(0), 3, 1, 7);
         round("999 minutes", onDay(0), 3, 999, 12);
         round("12 minutes: the day is over as he comes", onDay(0), 3, 12, 12);
         round("13 minutes: the last minute of the day", onDay(0), 3, 13, 12);
         round("11 minutes: b's house on day 1", onDay(0), 3, 11, 11);
         round("on the last day", onDay(LAST), 1, 5, 0);
-        s.of("35", "for all LETTERS told as bits (1 .. ; at most 6 of them; one may wait anywhere; a minute for each 1 of FAR)");
+        s.of("35", "for all LETTERS told as bits (1 .. ; at most 6 of them; "
+                + "one may wait anywhere; a minute for each 1 of FAR)");
         StreetsStepOn six = Due.built("0-1,5;0-2,5");
         for (int i = 0; i < 12; i++) {
             six.letter(0, 0);
@@ -297,6 +305,9 @@ final class PostmenBoundaries {
         x.same(0, 0);
         round("no way", x, 9, 999, -2);
         s.row("no way: the row as it was", x, 7);
+        round("a way", x, 3, 999, 12);
+        round("no way behind a way", x, 9, 999, -2);
+        s.row("no way behind a way: the row as it was", x, 0);
         StreetsStepOn slow = Due.built("9-8,1;1-2,1;9-8,1;9-8,1;9-8,1;9-8,1;9-8,1;9-8,1;9-8,1;9-8,1");
         Due.town(slow, "9-8,1;9-8,1;" + SLOW);
         slow.letter(0, 0);
@@ -436,8 +447,9 @@ final class PostmenBoundaries {
         s.of("39", "-2: it can't; NONE: others.");
         s.leaves("no way", -2, y -> y.walk(9, 1));
         StreetsStepOn apart = Due.built("0-1,5;2-3,5");
-        s.is("a way to one alone", apart.walk(0, 3), -2);
         s.is("a way to that one", apart.walk(0, 1), 0);
+        s.is("a way to one alone", apart.walk(0, 3), -2);
+        s.row("a way to one alone: the row as it was", apart, 0);
         s.refused("no streets", y -> y.walk(0, 0));
         s.refused("a street that is not there", y -> y.walk(0, 8));
         s.refused("one that is there, one that is not", y -> y.walk(0, 9));
@@ -453,7 +465,16 @@ final class PostmenBoundaries {
         s.of("40", "HOUSES of HOMES of LETTERS told as bits (1 .. ) is the least; of equal ones the first: it");
         StreetsStepOn all = star(TermsBoundaries.streets(12));
         s.is("all 12", all.meet(4095), 0);
+        s.row("all 12", all, 0, 0);
         s.is("the last", all.meet(1 << 11), 0);
+        s.row("the last", all, 0, 0);
+        StreetsStepOn three = star("0-1,5;1-2,3;2-3,4");
+        s.is("the first two", three.meet(3), 0);
+        s.row("the first two: the third does not count", three, 5, 5);
+        s.is("the first and the third", three.meet(5), 0);
+        s.row("the first and the third", three, 8, 8);
+        s.is("all three", three.meet(7), 1);
+        s.row("all three", three, 8, 5);
         StreetsStepOn two = star("9-8,4;8-9,4");
         s.is("8 or 9", two.meet(3), 8);
         s.row("8 or 9", two, 4, 4);

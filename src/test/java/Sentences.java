@@ -19,8 +19,9 @@ final class Sentences {
     private static final int PROMISES = 52;
     /** Words by which the document tells of a boundary. */
     private static final Pattern BOUNDARY = Pattern.compile("NONE|NoSuchElementException|[Rr]efused|false|-2|-3|-1 - p|"
-            + "at most|at least|more than|fewer than|too small|too great|too early|above|below|beyond|\\.\\.|[Ww]ithout|"
-            + "no room|empty|never|\\bnone\\b|missing|[Nn]othing|others|no way|of equal|can't|less 1|unlike|512");
+            + "at most|at least|more than|fewer than|too small|too great|too early|above|below|beyond|"
+            + "\\.\\.|[Ww]ithout|no room|empty|never|\\bnone\\b|missing|[Nn]othing|others|"
+            + "no way|of equal|can't|less 1|unlike|512");
 
     private final Due due = new Due();
     private final Map<String, String> sections = new TreeMap<>();

@@ -292,6 +292,9 @@ final class TermsBoundaries {
         value("1=2", 0);
         value("2=2", 1);
         value("3=2", 0);
+        value("(2<1)+5", 5);
+        value("(1>2)+5", 5);
+        value("(1=2)+5", 5);
         value("1+1<3", 1);
         value("3>1+1", 1);
         value("2=1*2", 1);
@@ -507,7 +510,8 @@ final class TermsBoundaries {
         kept("on day 3, own on day 2", "oab", 2, 0, 3, 1);
         s.is("0", town().wish(2, 0, 0), -1);
         s.is("13", town().wish(2, 0, 13), -1);
-        s.of("Terms 2", "3: by each ORDER its NEXT is another one than the number (of itself: another one than itself)");
+        s.of("Terms 2", "3: by each ORDER its NEXT is another one than the number "
+                + "(of itself: another one than itself)");
         kept("by the first", "oab;o;o;o;o;o;o", 3, 0, 1, 0);
         kept("by the last of 7", "o;o;o;o;o;o;oab", 3, 0, 1, 0);
         kept("by none", "o;o;o;o;o;o;oab", 3, 0, 2, 1);

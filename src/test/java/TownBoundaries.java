@@ -126,6 +126,7 @@ final class TownBoundaries {
         s.is("no -", Due.town(new StreetsStepOn(), "01,1"), -2);
         s.is("no comma", Due.town(new StreetsStepOn(), "0-1;o"), -4);
         s.is("no length", Due.town(new StreetsStepOn(), "0-1,;o"), -5);
+        s.is("x ahead of a digit", Due.town(new StreetsStepOn(), "0-1,x5"), -5);
     }
 
     /** 11 STREETS, an ORDER, then what stands behind, so that its last sign is sign 75, the 76th. */
@@ -259,6 +260,12 @@ final class TownBoundaries {
             s.is("behind " + text + " the next order", x.next(2, 0), 0);
             s.is("behind " + text + " the next order", x.next(2, 3), 3);
         }
+        StreetsStepOn stale = Due.built(TermsBoundaries.streets(3));
+        Due.town(stale, "oabc;x");
+        Due.town(stale, "o");
+        for (int street = 0; street < 3; street++) {
+            s.is("an order behind one that did not come", stale.next(0, street), street);
+        }
         StreetsStepOn y = new StreetsStepOn();
         Due.town(y, TermsBoundaries.streets(12) + ";oa;x");
         s.is("room as before", Due.town(y, TermsBoundaries.streets(12)), 12);
@@ -340,7 +347,8 @@ final class TownBoundaries {
     }
 
     private void p7Entries() {
-        s.of("7", "LENGTHS of STREETS 0, 1, .., as a sheet tells them: bytes (kind 0), shorts (1), ints (2) of n entries");
+        s.of("7", "LENGTHS of STREETS 0, 1, .., as a sheet tells them: "
+                + "bytes (kind 0), shorts (1), ints (2) of n entries");
         StreetsStepOn x = Due.built(TermsBoundaries.streets(12));
         s.is("12 entries", x.sheet(2, 12, 1, 1), 78);
         s.is("the last", x.street(11, 2), 12);
