@@ -574,7 +574,7 @@ public final class StreetsStepOn {
         if (book.orders < 2) {
             return NONE;
         }
-        int least = Integer.MAX_VALUE;
+        int least = Almanac.MOST_TURN + 1;
         int first = 0;
         int second = 0;
         for (int a = 0; a < book.orders; a++) {
@@ -1754,9 +1754,9 @@ public final class StreetsStepOn {
             minutes = Math.max(1, minutesOfDay);
         }
 
-        /** The fewest minutes, or NONE. */
+        /** The fewest minutes, or NONE. One always comes before the last DAY ends, so that is the start. */
         int plan(Roads roads, int place, int wanted) {
-            least = Integer.MAX_VALUE;
+            least = days * minutes;
             bestSize = 0;
             goOn(roads, place, 0, wanted, 0);
             return bestSize > 0 ? least : NONE;
