@@ -1103,6 +1103,19 @@ public final class PromisesTest {
         StreetsStepOn late = Due.built("0-1,5;0-1,5;oab;oab;oab;o");
         due.is("47: o first", late.soonest(), 1);
         due.row("47: o first", late, 0, 3, 2);
+        longestSoonest();
+    }
+
+    /**
+     * Six ORDERS are alike, so each change of places only begins the same week elsewhere: the turn
+     * is always one of 3, 4 and 5 weeks, and no part of a week undoes any number of weeks.
+     */
+    private static void longestSoonest() {
+        StreetsStepOn x = Due.built(TWELVE);
+        Due.town(x, "oabcdefg;oabcdefg;oabcdefg;oabcdefg;oabcdefg;oabcdefg;ochke.ilj");
+        due.is("47: the longest, as it is", x.period(), 420);
+        due.is("47: by no change it is sooner", x.soonest(), 420);
+        due.row("47: the first pair, though none is sooner", x, 0, 1, 420);
     }
 
     private static void p48to49() {
